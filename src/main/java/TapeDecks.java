@@ -52,29 +52,24 @@ public final class TapeDecks {
             samples = new float[n < 0 ? 0 : n];
         }
 
-        @Override
         int kind() {
             return REEL;
         }
 
-        @Override
         int length() {
             return samples.length;
         }
 
-        @Override
         double valueAt(int i) {
             return has(i) ? samples[i] : 0.0;
         }
 
-        @Override
         void put(int i, double value) {
             if (has(i)) {
                 samples[i] = (float) value;
             }
         }
 
-        @Override
         long bitsAt(int i) {
             return floatBits((float) valueAt(i));
         }
@@ -87,29 +82,24 @@ public final class TapeDecks {
             cues = new double[n < 0 ? 0 : n];
         }
 
-        @Override
         int kind() {
             return LIST;
         }
 
-        @Override
         int length() {
             return cues.length;
         }
 
-        @Override
         double valueAt(int i) {
             return has(i) ? cues[i] : 0.0;
         }
 
-        @Override
         void put(int i, double value) {
             if (has(i)) {
                 cues[i] = value;
             }
         }
 
-        @Override
         long bitsAt(int i) {
             return doubleBits(valueAt(i));
         }
@@ -122,7 +112,6 @@ public final class TapeDecks {
             this.label = label;
         }
 
-        @Override
         int kind() {
             return TAG;
         }
@@ -143,42 +132,40 @@ public final class TapeDecks {
     }
 
     private abstract static class Ear {
+        final Deck owner;
+
+        Ear(Deck owner) {
+            this.owner = owner;
+        }
+
         abstract boolean isSharp();
 
         abstract long heard();
     }
 
     private static final class DullEar extends Ear {
-        private final Deck owner;
-
         DullEar(Deck owner) {
-            this.owner = owner;
+            super(owner);
         }
 
-        @Override
         boolean isSharp() {
             return false;
         }
 
-        @Override
         long heard() {
             return (int) owner.level / 2;
         }
     }
 
     private static final class SharpEar extends Ear {
-        private final Deck owner;
-
         SharpEar(Deck owner) {
-            this.owner = owner;
+            super(owner);
         }
 
-        @Override
         boolean isSharp() {
             return true;
         }
 
-        @Override
         long heard() {
             return 1000L * (long) owner.level;
         }
@@ -605,14 +592,13 @@ public final class TapeDecks {
 
     /** One TICK: the FINDING that it meets, with nothing changed, or NO_FINDING. */
     private int tick(Deck deck) {
-        int i = (int) deck.head;
-        int finding = takenFinding(deck.place, false, i);
-        if (finding != NO_FINDING) {
-            return finding;
-        }
         Row reel = rowIn(deck.place, false);
         if (reel == null) {
             return missing(deck.place);
+        }
+        int i = (int) deck.head;
+        if (!reel.has(i)) {
+            return BEYOND;
         }
         double level = deck.level + reel.valueAt(i);
         if (isEndless(level)) {

@@ -7,7 +7,7 @@ import java.util.regex.Pattern;
 /** What ../shared/LANGUAGE.md keeps out of the class and a look at its text can find. Run from the project's root. */
 public final class LanguageTest {
     private static final String[] KEPT_OUT = {
-        "%", "->", "::", "\\bimport\\b", "\\bpackage\\b", "\\bcatch\\b", "\\bfinally\\b", "\\btry\\b", "\\bassert\\b",
+        "%", "@", "->", "::", "\\bimport\\b", "\\bpackage\\b", "\\bcatch\\b", "\\bfinally\\b", "\\btry\\b", "\\bassert\\b",
         "\\bsynchronized\\b", "\\bvar\\b", "\\bprotected\\b", "\\b(Math|Double|Float|Object|System|Integer|Long|Thread)\\b",
         "\\bthrow (?!new (ClassCastException|NullPointerException|ArrayIndexOutOfBoundsException)\\(\\);)",
         "static (?!final|long|int|float|double|boolean|class)", "static final (float|double|String)\\b", "[^\\x00-\\x7F]"
