@@ -138,18 +138,12 @@ public final class TapeDecks {
             this.owner = owner;
         }
 
-        abstract boolean isSharp();
-
         abstract long heard();
     }
 
     private static final class DullEar extends Ear {
         DullEar(Deck owner) {
             super(owner);
-        }
-
-        boolean isSharp() {
-            return false;
         }
 
         long heard() {
@@ -160,10 +154,6 @@ public final class TapeDecks {
     private static final class SharpEar extends Ear {
         SharpEar(Deck owner) {
             super(owner);
-        }
-
-        boolean isSharp() {
-            return true;
         }
 
         long heard() {
@@ -479,11 +469,10 @@ public final class TapeDecks {
         if (i < 0 || i >= earRow.length) {
             return found(BEYOND);
         }
-        Ear made = sort == SHARP ? new SharpEar(known) : new DullEar(known);
-        if (sharpAlone && !made.isSharp()) {
+        if (sharpAlone && sort != SHARP) {
             return found(STORE);
         }
-        earRow[i] = made;
+        earRow[i] = sort == SHARP ? new SharpEar(known) : new DullEar(known);
         return 1;
     }
 

@@ -5,8 +5,24 @@ final class Due {
 
     private static int wrong = 0;
     private static int asked = 0;
+    private static String sentence = "";
 
     private Due() {
+    }
+
+    /** A test of one sentence of the document: what it asks is told under that sentence. */
+    static void test(String words, Runnable body) {
+        int before = asked;
+        sentence = "[" + words + "] ";
+        try {
+            body.run();
+        } catch (RuntimeException e) {
+            is("threw " + e, 1, 0);
+        }
+        if (asked == before) {
+            is("asks nothing", 1, 0);
+        }
+        sentence = "";
     }
 
     static void is(String call, long got, long want) {
@@ -14,13 +30,21 @@ final class Due {
         if (got != want) {
             wrong++;
             if (wrong <= 50) {
-                System.out.println(call + " answered " + got + ", due is " + want);
+                System.out.println(sentence + call + " answered " + got + ", due is " + want);
             }
         }
     }
 
     static void holds(String what, boolean so) {
         is(what, so ? 1 : 0, 1);
+    }
+
+    static void same(String what, String got, String want) {
+        if (!got.equals(want)) {
+            is(what + ":\n  " + got + "\n  for\n  " + want + "\n  (the same)", 0, 1);
+        } else {
+            is(what, 1, 1);
+        }
     }
 
     /** Which exception at() throws: 0 for none. */
