@@ -1,10 +1,19 @@
 import java.io.IOException;
+import java.lang.reflect.Constructor;
+import java.lang.reflect.Executable;
+import java.lang.reflect.Field;
+import java.lang.reflect.Method;
+import java.lang.reflect.Modifier;
 import java.nio.file.Files;
 import java.nio.file.Path;
+import java.util.Set;
 import java.util.regex.Matcher;
 import java.util.regex.Pattern;
 
-/** What ../shared/LANGUAGE.md keeps out of the class and a look at its text can find. Run from the project's root. */
+/**
+ * What ../shared/LANGUAGE.md keeps out of the class, by a look at its text and at what is declared in it.
+ * Run from the project's root.
+ */
 public final class LanguageTest {
     private static final String[] KEPT_OUT = {
         "%", "@", "->", "::", "\\bimport\\b", "\\bpackage\\b", "\\bcatch\\b", "\\bfinally\\b", "\\btry\\b", "\\bassert\\b",
@@ -12,7 +21,8 @@ public final class LanguageTest {
         "\\bthrow (?!new (ClassCastException|NullPointerException|ArrayIndexOutOfBoundsException)\\(\\);)",
         "static (?!final|long|int|float|double|boolean|class)", "static final (float|double|String)\\b", "[^\\x00-\\x7F]"
     };
-    private static final int LONGEST_METHOD = 60;
+    private static final int LONGEST_METHOD = 60, MOST_CLASSES = 12, MOST_FIELDS = 20, MOST_PARAMETERS = 7;
+    private static final Set<Class<?>> CONSTANTS = Set.of(int.class, long.class, boolean.class, char.class, String.class);
 
     private static String withoutComments(String text) {
         return text.replaceAll("(?s)/\\*.*?\\*/", "").replaceAll("//[^\n]*", "");
@@ -31,6 +41,44 @@ public final class LanguageTest {
         }
     }
 
+    private static void fields(Class<?> owner) {
+        int own = 0;
+        for (Field field : owner.getDeclaredFields()) {
+            if (Modifier.isStatic(field.getModifiers())) {
+                Due.holds("rule 5: " + field, Modifier.isFinal(field.getModifiers()) && CONSTANTS.contains(field.getType()));
+            } else {
+                own++;
+            }
+        }
+        Due.holds("rule 11: fields of " + owner, own <= MOST_FIELDS);
+    }
+
+    private static void parameters(Executable called) {
+        Due.holds("rule 11: parameters of " + called, called.getParameterCount() <= MOST_PARAMETERS);
+    }
+
+    private static void classes() {
+        Class<?>[] inside = TapeDecks.class.getDeclaredClasses();
+        Due.holds("rule 11: classes", 1 + inside.length <= MOST_CLASSES);
+        for (Class<?> one : inside) {
+            Due.holds("rule 1: " + one + " is static and not open", Modifier.isStatic(one.getModifiers())
+                    && !Modifier.isPublic(one.getModifiers()) && !Modifier.isProtected(one.getModifiers()));
+            Due.is("rule 1: classes inside " + one, one.getDeclaredClasses().length, 0);
+            declared(one);
+        }
+        declared(TapeDecks.class);
+    }
+
+    private static void declared(Class<?> owner) {
+        fields(owner);
+        for (Method method : owner.getDeclaredMethods()) {
+            parameters(method);
+        }
+        for (Constructor<?> made : owner.getDeclaredConstructors()) {
+            parameters(made);
+        }
+    }
+
     public static void main(String[] args) throws IOException {
         String code = withoutComments(Files.readString(Path.of("src/main/java/TapeDecks.java")));
         for (String kept : KEPT_OUT) {
@@ -38,6 +86,7 @@ public final class LanguageTest {
             Due.holds("'" + kept + "' is kept out", !there.find());
         }
         methodsAreShort(code);
+        classes();
         Due.end();
     }
 }
